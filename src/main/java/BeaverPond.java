@@ -2,6 +2,7 @@ import java.util.ArrayList;
 import java.util.Arrays;
 import java.util.NoSuchElementException;
 
+/** A pond of machines that may never stop. The document in shared/DOC.md tells what each call promises. */
 public final class BeaverPond {
     private static final int MOST_MACHINES = 200;
     private static final int MOST_LETTERS = 60;
@@ -354,6 +355,7 @@ public final class BeaverPond {
         static final int STOP = -1;
         static final int MOST_STATES = 4;
         static final int MOST_SIGNS = 3;
+        static final int CELLS = MOST_STATES * MOST_SIGNS;
         private static final int BITS = 5;
         private static final long MASK = 31L;
         private static final int NEXT_STATES = 5;
@@ -379,16 +381,12 @@ public final class BeaverPond {
         }
 
         static int moveAt(long table, int state, int sign) {
-            return (int) ((table >>> shiftFor(state, sign)) & MASK);
+            return (int) ((table >>> (BITS * (state * MOST_SIGNS + sign))) & MASK);
         }
 
         static long with(long table, int state, int sign, int move) {
-            int shift = shiftFor(state, sign);
+            int shift = BITS * (state * MOST_SIGNS + sign);
             return (table & ~(MASK << shift)) | ((long) move << shift);
-        }
-
-        private static int shiftFor(int state, int sign) {
-            return BITS * (state * MOST_SIGNS + sign);
         }
     }
 
@@ -561,13 +559,16 @@ public final class BeaverPond {
     }
 
     private static final class Likeness {
+        // The names of the states 1, 2 and 3 are 1, 2 and 3 in some order, so two of them tell the last one.
+        private static final int SUM_OF_NAMES = 1 + 2 + 3;
+
         static boolean joins(Machine one, Machine other) {
             if (!one.isSized(other.states, other.signs)) {
                 return false;
             }
             for (int second = 1; second < Table.MOST_STATES; second++) {
                 for (int third = 1; third < Table.MOST_STATES; third++) {
-                    int fourth = 6 - second - third;
+                    int fourth = SUM_OF_NAMES - second - third;
                     if (second != third && joinsByNames(one, other, second, third, fourth)) {
                         return true;
                     }
@@ -1002,12 +1003,14 @@ public final class BeaverPond {
         }
     }
 
-    // A row of signs is a number, two bits a sign, the nearest one lowest; a picture is one number too.
+    // A row of signs is a number to the base 4, the nearest sign the lowest one; a picture is one number too.
+    // The base is a power of two, though there are three signs at most, so that a mask takes the last sign off.
     private static final class Near {
         static final int FAILED = -1;
         static final int LONGEST_ROW = 4;
         private static final int MOST = 300;
-        private static final int ROWS = 256;
+        private static final int SIGNS = 4;
+        private static final int ROWS = SIGNS * SIGNS * SIGNS * SIGNS;
         private static final int SLOTS = 1024;
         // Each round but the last one adds a picture or a row of signs.
         private static final int MOST_ROUNDS = MOST + 2 * ROWS + 1;
@@ -1018,15 +1021,14 @@ public final class BeaverPond {
         private final boolean[] rightRows = new boolean[ROWS];
         private int count;
         private int rowCount;
-        private int rowMask;
-        private int lastSignShift;
+        private int lastPlace;
 
         int countPictures(Machine machine, int length) {
             begin(length);
             boolean grows = true;
             for (int round = 0; grows && round < MOST_ROUNDS; round++) {
                 int size = count + rowCount;
-                for (int index = 0; index < count; index++) {
+                for (int index = 0; index < count && index < MOST; index++) {
                     if (!canFollow(machine, pictures[index])) {
                         return FAILED;
                     }
@@ -1037,8 +1039,10 @@ public final class BeaverPond {
         }
 
         private void begin(int length) {
-            rowMask = (1 << (2 * length)) - 1;
-            lastSignShift = 2 * (length - 1);
+            lastPlace = 1;
+            for (int place = 1; place < length; place++) {
+                lastPlace *= SIGNS;
+            }
             count = 0;
             rowCount = 0;
             Arrays.fill(slots, 0);
@@ -1048,34 +1052,69 @@ public final class BeaverPond {
             }
             addRow(leftRows, 0);
             addRow(rightRows, 0);
-            canTake(0);
+            canTake(pictureOf(0, 0, 0, 0));
         }
 
         private boolean canFollow(Machine machine, int picture) {
-            int move = Table.moveAt(machine.table, (picture >> 18) & 3, (picture >> 16) & 3);
+            int move = Table.moveAt(machine.table, stateIn(picture), signIn(picture));
             if (!Table.goesOn(move)) {
                 return false;
             }
-            boolean toRight = Table.goesRight(move);
-            int left = (picture >> 8) & 255;
-            int right = picture & 255;
-            int behind = toRight ? left : right;
-            int ahead = toRight ? right : left;
-            boolean[] rowsAhead = toRight ? rightRows : leftRows;
-            addRow(toRight ? leftRows : rightRows, behind);
-            int head = (Table.comesTo(move) << 2) | (ahead & 3);
-            int newBehind = ((behind << 2) | Table.written(move)) & rowMask;
-            for (int sign = 0; sign < machine.signs; sign++) {
-                int newAhead = (ahead >> 2) | (sign << lastSignShift);
-                if (hasRow(rowsAhead, newAhead)) {
-                    int newLeft = toRight ? newBehind : newAhead;
-                    int newRight = toRight ? newAhead : newBehind;
-                    if (!canTake((head << 16) | (newLeft << 8) | newRight)) {
+            int next = Table.comesTo(move);
+            int left = leftIn(picture);
+            int right = rightIn(picture);
+            if (Table.goesRight(move)) {
+                addRow(leftRows, left);
+                int newLeft = withFirst(left, Table.written(move));
+                for (int sign = 0; sign < machine.signs; sign++) {
+                    int newRight = withLast(right, sign);
+                    if (hasRow(rightRows, newRight) && !canTake(pictureOf(next, firstOf(right), newLeft, newRight))) {
+                        return false;
+                    }
+                }
+            } else {
+                addRow(rightRows, right);
+                int newRight = withFirst(right, Table.written(move));
+                for (int sign = 0; sign < machine.signs; sign++) {
+                    int newLeft = withLast(left, sign);
+                    if (hasRow(leftRows, newLeft) && !canTake(pictureOf(next, firstOf(left), newLeft, newRight))) {
                         return false;
                     }
                 }
             }
             return true;
+        }
+
+        private static int pictureOf(int state, int sign, int left, int right) {
+            return ((state * SIGNS + sign) * ROWS + left) * ROWS + right;
+        }
+
+        private static int stateIn(int picture) {
+            return picture / (SIGNS * ROWS * ROWS);
+        }
+
+        private static int signIn(int picture) {
+            return (picture / (ROWS * ROWS)) % SIGNS;
+        }
+
+        private static int leftIn(int picture) {
+            return (picture / ROWS) % ROWS;
+        }
+
+        private static int rightIn(int picture) {
+            return picture % ROWS;
+        }
+
+        private static int firstOf(int row) {
+            return row % SIGNS;
+        }
+
+        private int withFirst(int row, int sign) {
+            return (row & (lastPlace - 1)) * SIGNS + sign;
+        }
+
+        private int withLast(int row, int sign) {
+            return row / SIGNS + sign * lastPlace;
         }
 
         private void addRow(boolean[] rows, int row) {
@@ -1109,8 +1148,10 @@ public final class BeaverPond {
     }
 
     private static final class Listing {
-        // At most 12 moves are given one behind another, each time with at most 24 tables put on the pile.
-        private static final int HIGHEST_PILE = 12 * 24;
+        // As many moves as there are cells are given one behind another at most, and each time this many tables
+        // are put on the pile: any sign and state, to both sides.
+        private static final int MOST_OTHERS = Table.MOST_SIGNS * Table.MOST_STATES * 2;
+        private static final int HIGHEST_PILE = Table.CELLS * MOST_OTHERS;
 
         private final Walker walker;
         private final long[] pile = new long[HIGHEST_PILE];
@@ -1160,10 +1201,10 @@ public final class BeaverPond {
         }
 
         // As only the lowest new one is ever used, all below the highest one occur too.
-        private int highestSign(long table) {
+        private static int highestSign(long table) {
             int highest = 0;
-            for (int cell = 0; cell < states * signs; cell++) {
-                int move = moveInCell(table, cell);
+            for (int cell = 0; cell < Table.CELLS; cell++) {
+                int move = Table.moveAt(table, cell / Table.MOST_SIGNS, cell % Table.MOST_SIGNS);
                 if (move != Table.NO_MOVE) {
                     highest = Math.max(highest, Table.written(move));
                 }
@@ -1171,19 +1212,15 @@ public final class BeaverPond {
             return highest;
         }
 
-        private int highestState(long table) {
+        private static int highestState(long table) {
             int highest = 0;
-            for (int cell = 0; cell < states * signs; cell++) {
-                int move = moveInCell(table, cell);
+            for (int cell = 0; cell < Table.CELLS; cell++) {
+                int move = Table.moveAt(table, cell / Table.MOST_SIGNS, cell % Table.MOST_SIGNS);
                 if (move != Table.NO_MOVE) {
                     highest = Math.max(highest, Table.comesTo(move));
                 }
             }
             return highest;
-        }
-
-        private int moveInCell(long table, int cell) {
-            return signs == 2 ? Table.moveAt(table, cell / 2, cell % 2) : Table.moveAt(table, cell / 3, cell % 3);
         }
 
         private void push(long table) {

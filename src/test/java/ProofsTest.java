@@ -76,8 +76,9 @@ public final class ProofsTest {
 
     private static void backwardLimits() {
         proved("1LA1LA2RD_1LC2RB1LC_---0RB2LD_1LD2RC1LA", 'b', 30, "[30]");
-        // The greatest rows have 96 and 104.
-        proved("0LB2LB1RD_0RA---1RD_1LD0RC1LD_1LA1RC2RC", 'b', 20, "[20]");
+        // The greatest rows have 100, 100 and 104; with more room, the last one would be proved too.
+        proved("2RA0LD0LD_1LC1RD2RD_---2RB2RD_0RA1RA2LC", 'b', 21, "[21]");
+        proved("1RC1RD---_2LA2RD1RC_0RC0LD0LD_0LB0LA2RC", 'b', 30, "[30]");
         failed("1RB0LD1LD_2RB0LA0LA_---2RD2RD_0RA0LC1RB", 'b', 30);
     }
 
