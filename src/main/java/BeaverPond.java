@@ -1012,28 +1012,27 @@ public final class BeaverPond {
         private static final int SIGNS = 4;
         private static final int ROWS = SIGNS * SIGNS * SIGNS * SIGNS;
         private static final int SLOTS = 1024;
-        // Each round but the last one adds a picture or a row of signs.
-        private static final int MOST_ROUNDS = MOST + 2 * ROWS + 1;
+        // Each round but the last one adds a picture.
+        private static final int MOST_ROUNDS = MOST + 1;
 
         private final int[] pictures = new int[MOST];
         private final int[] slots = new int[SLOTS];
         private final boolean[] leftRows = new boolean[ROWS];
         private final boolean[] rightRows = new boolean[ROWS];
         private int count;
-        private int rowCount;
         private int lastPlace;
 
         int countPictures(Machine machine, int length) {
             begin(length);
-            boolean grows = true;
-            for (int round = 0; grows && round < MOST_ROUNDS; round++) {
-                int size = count + rowCount;
+            int before = 0;
+            // A row of signs is added in the round of its picture, so a round without a new picture has no new row.
+            for (int round = 0; count > before && round < MOST_ROUNDS; round++) {
+                before = count;
                 for (int index = 0; index < count && index < MOST; index++) {
                     if (!canFollow(machine, pictures[index])) {
                         return FAILED;
                     }
                 }
-                grows = count + rowCount > size;
             }
             return count;
         }
@@ -1044,7 +1043,6 @@ public final class BeaverPond {
                 lastPlace *= SIGNS;
             }
             count = 0;
-            rowCount = 0;
             Arrays.fill(slots, 0);
             for (int row = 0; row < ROWS; row++) {
                 leftRows[row] = false;
@@ -1117,10 +1115,9 @@ public final class BeaverPond {
             return row / SIGNS + sign * lastPlace;
         }
 
-        private void addRow(boolean[] rows, int row) {
-            if (row >= 0 && row < rows.length && !rows[row]) {
+        private static void addRow(boolean[] rows, int row) {
+            if (row >= 0 && row < rows.length) {
                 rows[row] = true;
-                rowCount++;
             }
         }
 

@@ -1,35 +1,12 @@
-/** Promises 5 to 9: type, wipe, read, code, areAlike. */
+/** Promises 5 to 9: codes are typed, read and told, and likeness. */
 public final class CodesTest {
     public static void main(String[] args) {
-        type();
         read();
         wrongCodes();
-        readInFullPond();
-        code();
         likeness();
+        theStateZeroKeepsItsName();
         likenessOfFour();
         Due.end("CodesTest");
-    }
-
-    private static void type() {
-        BeaverPond x = new BeaverPond();
-        String letters = "012LRABCDH-_";
-        for (char letter = 0; letter < 400; letter++) {
-            char each = letter;
-            if (letters.indexOf(each) < 0) {
-                Due.badNumber("type((char) " + (int) each + ")", () -> x.type(each));
-            }
-        }
-        Due.badNumber("type((char) 65535)", () -> x.type((char) 65535));
-        for (int typed = 1; typed <= 60; typed++) {
-            char each = letters.charAt(typed % letters.length());
-            Due.is(typed, "type(" + each + ")", () -> x.type(each));
-        }
-        Due.badState("a letter 61", () -> x.type('0'));
-        Due.badNumber("a wrong letter 61", () -> x.type('E'));
-        Due.is(60, "wipe()", x::wipe);
-        Due.is(0, "wipe() again", x::wipe);
-        Due.is(1, "type behind wipe()", () -> x.type('_'));
     }
 
     private static void read() {
@@ -67,35 +44,6 @@ public final class CodesTest {
         }
     }
 
-    private static void readInFullPond() {
-        BeaverPond x = new BeaverPond();
-        for (int number = 0; number < 200; number++) {
-            x.machine(1, 2);
-        }
-        Due.badNumber("read() of nothing in a full pond", x::read);
-        Due.typeAll(x, "1RA---");
-        Due.badState("read() in a full pond", x::read);
-        Due.is(6, "wipe() behind it", x::wipe);
-    }
-
-    private static void code() {
-        BeaverPond x = new BeaverPond();
-        int two = Due.machineOf(x, "1RB1LB_1LA1RH");
-        int three = Due.machineOf(x, "0LA------_2LH---1RB");
-        Due.is('1', "code(0, 0)", () -> x.code(two, 0));
-        Due.is('_', "code(0, 6)", () -> x.code(two, 6));
-        Due.is('H', "code(0, 12)", () -> x.code(two, 12));
-        Due.is('_', "code(1, 9)", () -> x.code(three, 9));
-        Due.is('B', "code(1, 18)", () -> x.code(three, 18));
-        Due.badIndex("code(0, 13)", () -> x.code(two, 13));
-        Due.badIndex("code(1, 19)", () -> x.code(three, 19));
-        Due.badIndex("code(0, -1)", () -> x.code(two, -1));
-        Due.badIndex("code(0, the least)", () -> x.code(two, Integer.MIN_VALUE));
-        Due.badIndex("code(0, the greatest)", () -> x.code(two, Integer.MAX_VALUE));
-        Due.badIndex("code(2, 0)", () -> x.code(2, 0));
-        Due.badIndex("code(-1, 0)", () -> x.code(-1, 0));
-    }
-
     private static void alike(boolean due, String one, String other) {
         BeaverPond x = new BeaverPond();
         int first = Due.machineOf(x, one);
@@ -122,12 +70,17 @@ public final class CodesTest {
         alike(true, "1RB---_0LC1RH_------", "1LC---_------_0RB1LH");
         alike(false, "1RB---_0LC1RH_------", "1LC---_------_0RB1RH");
         alike(false, "1RA2RA---", "2RA1RA---");
-        BeaverPond x = new BeaverPond();
-        x.machine(1, 2);
-        Due.badIndex("areAlike(0, 1)", () -> x.areAlike(0, 1));
-        Due.badIndex("areAlike(1, 0)", () -> x.areAlike(1, 0));
-        Due.badIndex("areAlike(-1, 0)", () -> x.areAlike(-1, 0));
-        Due.badIndex("areAlike(0, the least)", () -> x.areAlike(0, Integer.MIN_VALUE));
+    }
+
+    private static void theStateZeroKeepsItsName() {
+        alike(false, "1RB---_------", "------_1RA---");
+        alike(false, "1RA---_------", "------_1RB---");
+        alike(true, "------_1RB---_------", "------_------_1RC---");
+        alike(true, "------_1RB---_------", "------_------_1LC---");
+        alike(true, "------_1RH---_------_------", "------_------_------_1LH---");
+        alike(false, "------_1RH---_------_------", "------_------_------_1LB---");
+        alike(true, "------_1RA---_1LB---", "------_1RC---_1LA---");
+        alike(false, "------_1RA---_1LB---", "------_1RC---_1RA---");
     }
 
     /** All six orders of the names B, C, D, each in a mirror too. */

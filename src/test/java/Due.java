@@ -20,8 +20,16 @@ final class Due {
         try {
             return call.answer();
         } catch (RuntimeException thrown) {
-            return "throws " + thrown.getClass().getSimpleName();
+            return thrower(thrown) + thrown.getClass().getSimpleName();
         }
+    }
+
+    /** A pond must throw by itself: what the Java machine or the library throws in its place is a fault. */
+    private static String thrower(RuntimeException thrown) {
+        StackTraceElement[] trace = thrown.getStackTrace();
+        String place = trace.length == 0 ? "" : trace[0].getClassName();
+        boolean own = place.startsWith("BeaverPond") || place.startsWith("NaivePond");
+        return own && !"/ by zero".equals(thrown.getMessage()) ? "throws " : "lets " + place + " throw ";
     }
 
     static void is(Object want, String what, Call call) {

@@ -1,57 +1,19 @@
 /** Promises 21 to 24: list, next, record, undecided. */
 public final class ListingTest {
     public static void main(String[] args) {
-        wrongLists();
-        oneState();
         order();
         threeSigns();
-        bounds();
+        otherCallsLeaveThePile();
         stopsAreKnown();
-        fullPond();
-        anotherListing();
         records();
         undecided();
         Due.end("ListingTest");
     }
 
-    private static void wrongLists() {
-        BeaverPond x = new BeaverPond();
-        int[][] wrong = {{0, 2, 1}, {5, 2, 1}, {1, 1, 1}, {1, 4, 1}, {1, 2, 0}, {1, 2, 201}, {-1, 2, 5}, {2, -1, 5}, {2, 2, -1},
-            {Integer.MAX_VALUE, 2, 5}, {2, Integer.MIN_VALUE, 5}, {2, 2, Integer.MAX_VALUE}};
-        for (int[] each : wrong) {
-            Due.badNumber("list(" + each[0] + ", " + each[1] + ", " + each[2] + ")", () -> x.list(each[0], each[1], each[2]));
-            Due.nothingThere("next() behind it", x::next);
-        }
-        Due.is(1, "list(4, 3, 200)", () -> x.list(4, 3, 200));
-        Due.is(0, "next()", x::next);
-        for (int[] each : wrong) {
-            Due.badNumber("list(" + each[0] + ", " + each[1] + ", " + each[2] + ")", () -> x.list(each[0], each[1], each[2]));
-        }
-        Due.is(1, "next() of the listing that stays", x::next);
-        Due.same("0RA------_---------_---------_---------", "its code", Due.codeOf(x, 1));
-    }
-
-    private static void listed(BeaverPond x, String... lines) {
-        for (String line : lines) {
-            int machine = x.next();
-            String known = Due.certificateOf(x, machine);
-            Due.same(line, "machine " + machine, Due.codeOf(x, machine) + " " + x.known(machine) + known);
-        }
-    }
-
-    private static void oneState() {
-        BeaverPond x = new BeaverPond();
-        Due.is(1, "list(1, 2, 1)", () -> x.list(1, 2, 1));
-        listed(x, "1RH--- s[1]", "0RA--- ?[]", "1RA--- ?[]");
-        Due.is(-1, "next() behind the last one", x::next);
-        Due.is(-1, "next() again", x::next);
-        Due.badIndex("known(3)", () -> x.known(3));
-    }
-
     private static void order() {
         BeaverPond x = new BeaverPond();
         x.list(2, 2, 20);
-        listed(x, "1RH---_------ s[1]", "0RA---_------ ?[]", "0RB---_1RH--- s[2]", "0RB---_0LA--- ?[]", "0RB---_0LB--- ?[]",
+        Ponds.listed(x, "1RH---_------ s[1]", "0RA---_------ ?[]", "0RB---_1RH--- s[2]", "0RB---_0LA--- ?[]", "0RB---_0LB--- ?[]",
             "0RB---_0RA--- ?[]", "0RB---_0RB--- ?[]", "0RB---_1LA1RH s[4]", "0RB---_1LA0LA ?[]", "0RB---_1LA0LB ?[]",
             "0RB---_1LA0RA ?[]", "0RB---_1LA0RB ?[]", "0RB---_1LA1LA ?[]", "0RB---_1LA1LB ?[]", "0RB---_1LA1RA ?[]",
             "0RB1RH_1LA1RB s[6]", "0RB0LA_1LA1RB ?[]");
@@ -61,11 +23,11 @@ public final class ListingTest {
     private static void threeSigns() {
         BeaverPond x = new BeaverPond();
         x.list(3, 3, 3);
-        listed(x, "1RH------_---------_--------- s[1]", "0RA------_---------_--------- ?[]",
+        Ponds.listed(x, "1RH------_---------_--------- s[1]", "0RA------_---------_--------- ?[]",
             "0RB------_1RH------_--------- s[2]", "0RB------_0LA------_--------- ?[]", "0RB------_0LB------_--------- ?[]",
             "0RB------_0LC------_1RH------ s[3]");
         String above = "0RB------_0LC------_";
-        listed(x, above + "0LA------ ?[]", above + "0LB------ ?[]", above + "0LC------ ?[]", above + "0RA------ ?[]",
+        Ponds.listed(x, above + "0LA------ ?[]", above + "0LB------ ?[]", above + "0LC------ ?[]", above + "0RA------ ?[]",
             above + "0RB------ ?[]", above + "0RC------ ?[]", above + "1LA------ ?[]");
         BeaverPond y = new BeaverPond();
         y.list(2, 3, 4);
@@ -76,18 +38,18 @@ public final class ListingTest {
         }
     }
 
-    /** With a bound lower than the steps up to where it is stuck, it is not stuck; with just so many, it is. */
-    private static void bounds() {
+    /** Other machines do not count there, nor what is done to those that were listed. */
+    private static void otherCallsLeaveThePile() {
         BeaverPond x = new BeaverPond();
-        x.list(2, 2, 1);
-        listed(x, "1RH---_------ s[1]", "0RA---_------ ?[]", "0RB---_1RH--- s[2]", "0RB---_0LA--- ?[]", "0RB---_0LB--- ?[]",
-            "0RB---_0RA--- ?[]", "0RB---_0RB--- ?[]", "0RB---_1LA--- ?[]");
-        x.list(2, 2, 2);
-        listed(x, "1RH---_------ s[1]", "0RA---_------ ?[]", "0RB---_1RH--- s[2]", "0RB---_0LA--- ?[]", "0RB---_0LB--- ?[]",
-            "0RB---_0RA--- ?[]", "0RB---_0RB--- ?[]", "0RB---_1LA--- ?[]");
-        x.list(2, 2, 3);
-        listed(x, "1RH---_------ s[1]", "0RA---_------ ?[]", "0RB---_1RH--- s[2]", "0RB---_0LA--- ?[]", "0RB---_0LB--- ?[]",
-            "0RB---_0RA--- ?[]", "0RB---_0RB--- ?[]", "0RB---_1LA1RH s[4]");
+        x.list(2, 2, 20);
+        x.machine(4, 3);
+        x.run(0, 9);
+        Ponds.listed(x, "1RH---_------ s[1]", "0RA---_------ ?[]");
+        x.move(2, 0, 0, 0, true, 1);
+        x.move(2, 1, 0, 0, true, 1);
+        x.prove(2, 't', 300);
+        x.isSound();
+        Ponds.listed(x, "0RB---_1RH--- s[2]");
     }
 
     private static void stopsAreKnown() {
@@ -102,47 +64,6 @@ public final class ListingTest {
                 Due.is('s', "outcome()", x::outcome);
             }
         }
-    }
-
-    private static void fullPond() {
-        BeaverPond x = new BeaverPond();
-        for (int number = 0; number < 198; number++) {
-            x.machine(1, 2);
-        }
-        x.list(1, 2, 5);
-        Due.is(198, "next()", x::next);
-        Due.is(199, "next()", x::next);
-        Due.badState("next() in a full pond", x::next);
-        BeaverPond y = new BeaverPond();
-        for (int number = 0; number < 197; number++) {
-            y.machine(1, 2);
-        }
-        y.list(1, 2, 5);
-        Due.is(197, "next()", y::next);
-        Due.is(198, "next()", y::next);
-        Due.is(199, "next()", y::next);
-        Due.badState("next() in a full pond, though there is none any more", y::next);
-        BeaverPond z = new BeaverPond();
-        for (int number = 0; number < 200; number++) {
-            z.machine(1, 2);
-        }
-        Due.nothingThere("next() in a full pond without a listing", z::next);
-    }
-
-    private static void anotherListing() {
-        BeaverPond x = new BeaverPond();
-        x.list(2, 2, 20);
-        x.next();
-        x.next();
-        Due.is(1, "list(1, 3, 1)", () -> x.list(1, 3, 1));
-        listed(x, "1RH------ s[1]", "0RA------ ?[]", "1RA------ ?[]");
-        Due.is(-1, "next()", x::next);
-        Due.is(1, "list(2, 2, 20)", () -> x.list(2, 2, 20));
-        x.machine(4, 3);
-        x.run(5, 9);
-        listed(x, "1RH---_------ s[1]", "0RA---_------ ?[]");
-        x.move(2, 0, 0, 0, true, 0);
-        listed(x, "0RB---_1RH--- s[2]");
     }
 
     private static void records() {
